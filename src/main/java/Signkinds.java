@@ -304,7 +304,7 @@ public final class Signkinds {
 
     public int value(int sign, boolean isCode) throws IllegalArgumentException {
         checkSign(sign);
-        return Signs.valueOf(sign);
+        return Signs.signValue(sign);
     }
 
     public int number(int sign, int radix, boolean isCode) throws IllegalArgumentException {
@@ -415,7 +415,7 @@ public final class Signkinds {
         Line line = rowOf(row);
         int sum = 0;
         for (int place = 0; place < line.size(); place++) {
-            int value = Signs.valueOf(line.get(place));
+            int value = Signs.signValue(line.get(place));
             if (value >= 0) {
                 sum += value;
             }
@@ -754,7 +754,7 @@ public final class Signkinds {
             d = with(d, Signs.kindsOf(sign));
             d = with(d, Signs.upperOf(sign));
             d = with(d, Signs.lowerOf(sign));
-            d = with(d, Signs.valueOf(sign));
+            d = with(d, Signs.signValue(sign));
             d = with(d, Signs.numberOf(sign, SIXTEEN));
         }
         for (int kind = 0; kind < KINDS; kind++) {
@@ -806,7 +806,7 @@ public final class Signkinds {
                 case WHITE:
                     return isBetween(sign, 9, 13) || isBetween(sign, 28, 32);
                 case GREAT:
-                    return isGreatPlain(sign) || isBetween(sign, 192, 214) || isBetween(sign, 216, 222);
+                    return isAnyGreat(sign);
                 default:
                     return false;
             }
@@ -833,10 +833,10 @@ public final class Signkinds {
         }
 
         static int lowerOf(int sign) {
-            return isOf(sign, GREAT) ? sign + 32 : sign;
+            return isAnyGreat(sign) ? sign + 32 : sign;
         }
 
-        static int valueOf(int sign) {
+        static int signValue(int sign) {
             switch (sign) {
                 case 178:
                     return 2;
@@ -937,15 +937,19 @@ public final class Signkinds {
         }
 
         private static boolean isPlainDigit(int sign) {
-            return isBetween(sign, 48, 57);
+            return sign >= 48 && sign <= 57;
         }
 
         private static boolean isGreatPlain(int sign) {
-            return isBetween(sign, 65, 90);
+            return sign >= 65 && sign <= 90;
         }
 
         private static boolean isSmallPlain(int sign) {
-            return isBetween(sign, 97, 122);
+            return sign >= 97 && sign <= 122;
+        }
+
+        private static boolean isAnyGreat(int sign) {
+            return isGreatPlain(sign) || isBetween(sign, 192, 214) || isBetween(sign, 216, 222);
         }
 
         private static boolean isAnyLetter(int sign) {

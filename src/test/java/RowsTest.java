@@ -126,6 +126,7 @@ public final class RowsTest {
         CHECK.same("sink(0)", x.sink(0), 3);
         holds("the row 0", x, 0, "az5\u00b5\u00ff\u00df\u00e0\u00d7\u00fe");
         CHECK.same("sink(0) again", x.sink(0), 0);
+        CHECK.same("sink(0) of the first one alone", rowOf("Ab").sink(0), 1);
         CHECK.same("sink(1)", x.sink(1), 0);
     }
 
@@ -290,6 +291,7 @@ public final class RowsTest {
         CHECK.same("last(0, 3)", x.last(0, 3), 2);
         CHECK.same("last(0, 4)", x.last(0, 4), 3);
         CHECK.same("last(0, 3) at the first place", rowOf(" a").last(0, 3), 0);
+        CHECK.same("last(0, 3) at the last place", rowOf("a ").last(0, 3), 1);
         CHECK.same("last(1, 0)", x.last(1, 0), NONE);
         CHECK.illegal("last(0, 5)", () -> x.last(0, 5));
         CHECK.illegal("last(0, -1)", () -> x.last(0, -1));

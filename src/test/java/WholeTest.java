@@ -34,7 +34,12 @@ public final class WholeTest {
         CHECK.state("undo()", x::undo);
     }
 
-    /** An object with something in each row and track, by five steps. */
+    /** A call of the part "what is done". */
+    private interface Step {
+        int on(Signkinds x);
+    }
+
+    /** An object with something in each row and track, by six steps, of which the last one changed something. */
     private static Signkinds filled() {
         Signkinds x = new Signkinds();
         x.lay(0, ' ', 'a', 'B', '5');
@@ -42,42 +47,58 @@ public final class WholeTest {
         x.lay(2, 'x', NONE, NONE, NONE);
         x.send(0, 65536);
         x.put(1, 216);
+        x.lay(3, 'm', NONE, NONE, NONE);
         return x;
     }
 
+    private static String contents(Signkinds x) {
+        StringBuilder all = new StringBuilder();
+        for (int row = 0; row < 4; row++) {
+            all.append(x.spelled(row)).append(';');
+        }
+        for (int track = 0; track < 2; track++) {
+            for (int place = 0; place < x.ofTrack(track, 0); place++) {
+                all.append(x.unit(track, place)).append(',');
+            }
+            all.append(';');
+        }
+        return all.toString();
+    }
+
     private static void eachStepIsUndone() {
-        Signkinds x = filled();
-        // The sixth step, so that house(2) tells 6 ahead of each step that follows.
-        x.lay(3, NONE, NONE, NONE, NONE);
-        List<Check.Call> steps = new ArrayList<>();
-        steps.add(() -> x.lay(0, 1, 2, 3, 4));
-        steps.add(() -> x.lay(0, NONE, NONE, NONE, NONE));
-        steps.add(() -> x.drop(0, 2));
-        steps.add(() -> x.drop(0, 0));
-        steps.add(() -> x.copy(0, 1));
-        steps.add(() -> x.copy(0, 0));
-        steps.add(() -> x.raise(0));
-        steps.add(() -> x.raise(3));
-        steps.add(() -> x.sink(0));
-        steps.add(() -> x.sieve(0, 1, true));
-        steps.add(() -> x.strip(0));
-        steps.add(() -> x.turn(0));
-        steps.add(() -> x.write(0, 12, 10));
-        steps.add(() -> x.spell(0, 1));
-        steps.add(() -> x.read(1, 0));
-        steps.add(() -> x.send(0, 70000));
-        steps.add(() -> x.put(1, 9));
-        steps.add(() -> x.cut(0, 1));
-        steps.add(() -> x.flip(1));
-        steps.add(() -> x.reverse(0));
+        List<Step> steps = new ArrayList<>();
+        steps.add(x -> x.lay(0, 1, 2, 3, 4));
+        steps.add(x -> x.lay(0, NONE, NONE, NONE, NONE));
+        steps.add(x -> x.drop(0, 2));
+        steps.add(x -> x.drop(0, 0));
+        steps.add(x -> x.copy(0, 1));
+        steps.add(x -> x.copy(0, 0));
+        steps.add(x -> x.raise(0));
+        steps.add(x -> x.raise(1));
+        steps.add(x -> x.sink(0));
+        steps.add(x -> x.sink(2));
+        steps.add(x -> x.sieve(0, 1, true));
+        steps.add(x -> x.sieve(0, 1, false));
+        steps.add(x -> x.strip(0));
+        steps.add(x -> x.strip(1));
+        steps.add(x -> x.turn(0));
+        steps.add(x -> x.turn(2));
+        steps.add(x -> x.write(0, 12, 10));
+        steps.add(x -> x.spell(0, 1));
+        steps.add(x -> x.read(1, 0));
+        steps.add(x -> x.send(0, 70000));
+        steps.add(x -> x.put(1, 9));
+        steps.add(x -> x.cut(0, 1));
+        steps.add(x -> x.cut(0, 0));
+        steps.add(x -> x.flip(1));
+        steps.add(x -> x.reverse(0));
         for (int k = 0; k < steps.size(); k++) {
-            long before = x.digest();
-            CHECK.same("step " + k + " is done", !String.valueOf(Check.outcome(steps.get(k))).startsWith("throws"), true);
+            Signkinds x = filled();
+            String before = contents(x);
+            CHECK.same("step " + k + " tells -9", steps.get(k).on(x) == -9, false);
             CHECK.same("house(2) after step " + k, x.house(2), 6);
             CHECK.same("undo() of step " + k, x.undo(), 5);
-            x.lay(3, NONE, NONE, NONE, NONE);
-            CHECK.same("house(2) again", x.house(2), 6);
-            CHECK.same("all is as before step " + k, x.digest(), before);
+            CHECK.same("all is as before step " + k, contents(x), before);
         }
     }
 
@@ -157,7 +178,7 @@ public final class WholeTest {
     private static void house() {
         Signkinds x = filled();
         x.knock();
-        int[] due = {9, 3, 5, 1};
+        int[] due = {10, 3, 6, 1};
         for (int what = 0; what < 4; what++) {
             CHECK.same("house(" + what + ")", x.house(what), due[what]);
         }
@@ -168,6 +189,14 @@ public final class WholeTest {
 
     private static void isSound() {
         CHECK.same("isSound() of a new one", new Signkinds().isSound(), true);
+        Signkinds full = new Signkinds();
+        for (int k = 0; k < 10; k++) {
+            full.lay(1, 'a', 'B', '5', 255);
+        }
+        for (int k = 0; k < 12; k++) {
+            full.send(0, 65536 + k);
+        }
+        CHECK.same("isSound() with 40 signs and 24 units", full.isSound(), true);
         for (int begin = 0; begin < 256; begin += 32) {
             Signkinds x = new Signkinds();
             for (int sign = begin; sign < begin + 32; sign += 4) {
@@ -204,18 +233,19 @@ public final class WholeTest {
         CHECK.same("digest() of a new one", new Signkinds().digest(), none);
         Signkinds x = new Signkinds();
         x.lay(0, 'B', 255, NONE, NONE);
+        x.lay(1, 'b', 255, NONE, NONE);
         x.lay(2, '7', NONE, NONE, NONE);
         x.send(1, 65536);
         x.knock();
         long some = sumUp(
                 2, 66, 22, 66, 98, 11, 11, 255, 6, 376, 255, -1, -1, 0, 2, 2, 0, 1, -9, 11, 1, 2, 4,
-                0, 0, 0, 0, 0, 0, -9, 0, 0, 0, 0,
+                2, 98, 6, 66, 98, 11, 11, 255, 6, 376, 255, -1, -1, 0, 2, 2, 0, 0, -9, 11, 1, 2, 4,
                 1, 55, 5, 55, 55, 7, 7, 1, 0, 1, 0, 0, 7, 7, 1, 1, 2,
                 0, 0, 0, 0, 0, 0, -9, 0, 0, 0, 0,
-                1, 1, 0,
+                -1, 1, 1,
                 0, 0, 0, 0,
                 2, 1, 1, 0, 55296, 1, 1, 0, 216, 65536, 56320, 1, 0, 1, 220, 56320,
-                3, 2, 3, 1, 1);
+                5, 2, 4, 1, 1);
         CHECK.same("digest()", x.digest(), some);
         CHECK.same("digest() changes nothing", x.digest(), some);
     }
