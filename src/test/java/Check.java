@@ -1,7 +1,13 @@
 import java.util.Objects;
+import java.util.function.Function;
+import java.util.function.Supplier;
 
 /** Counts the answers that are due and those that are not, and tells each one that is not. */
 final class Check {
+    static final String INDEX = "throws.IndexOutOfBoundsException";
+    static final String ARGUMENT = "throws.IllegalArgumentException";
+    static final String STATE = "throws.IllegalStateException";
+
     /** A call that is to be looked at. */
     interface Call {
         Object answer();
@@ -25,15 +31,25 @@ final class Check {
     }
 
     void io(String call, Call made) {
-        same(call, outcome(made), "throws.IndexOutOfBoundsException");
+        same(call, outcome(made), INDEX);
     }
 
     void illegal(String call, Call made) {
-        same(call, outcome(made), "throws.IllegalArgumentException");
+        same(call, outcome(made), ARGUMENT);
     }
 
     void state(String call, Call made) {
-        same(call, outcome(made), "throws.IllegalStateException");
+        same(call, outcome(made), STATE);
+    }
+
+    /**
+     * The call is refused as is due (by what it throws, or by -9), and nothing is other by it: neither what is there,
+     * nor what each step back brings.
+     */
+    void refused(String call, Supplier<Signkinds> maker, Function<Signkinds, Object> made, Object due) {
+        Signkinds x = maker.get();
+        same(call, outcome(() -> made.apply(x)), due);
+        same("all after " + call, Made.allWithStepsBack(x), Made.allWithStepsBack(maker.get()));
     }
 
     /** The answer, or throws. and the name of what was thrown. */
@@ -43,6 +59,10 @@ final class Check {
         } catch (RuntimeException thrown) {
             return "throws." + thrown.getClass().getSimpleName();
         }
+    }
+
+    int answers() {
+        return right + wrong;
     }
 
     void end() {
