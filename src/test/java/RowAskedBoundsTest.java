@@ -292,8 +292,8 @@ public final class RowAskedBoundsTest {
 
     private static void words() {
         String[] rows = {"", "-", "a", "-a", "a-", "a-a", "aa", "a".repeat(40), "a-".repeat(20), "-a".repeat(20),
-            "-".repeat(39) + "a", "a" + "-".repeat(39)};
-        int[] due = {0, 0, 1, 1, 1, 2, 1, 1, 20, 20, 1, 1};
+            "-".repeat(39) + "a", "a" + "-".repeat(39), "5", "5a", "a5", "5-5"};
+        int[] due = {0, 0, 1, 1, 1, 2, 1, 1, 20, 20, 1, 1, 1, 1, 1, 2};
         for (int k = 0; k < rows.length; k++) {
             CHECK.same("words(0) of " + rows[k], Made.row(rows[k]).words(0), due[k]);
         }

@@ -153,15 +153,16 @@ public final class RowBoundsTest {
 
     private static void words() {
         String[] rows = {"", "-", "a", "5", "a5", "-a", "a-", "-a-", "a-b", "a--b", "-a-b-", "\u00b2a\u00b2", "a".repeat(40),
-            "-".repeat(40), "a-".repeat(20), "-a".repeat(20), "/0", "9:", "@A", "Z[", "`a", "z{", "\u00d7\u00d6", "\u00f7"};
-        int[] many = {0, 0, 1, 1, 1, 1, 1, 1, 2, 2, 2, 1, 1, 0, 20, 20, 1, 1, 1, 1, 1, 1, 1, 0};
+            "-".repeat(40), "a-".repeat(20), "-a".repeat(20), "/0", "9:", "@A", "Z[", "`a", "z{", "\u00d7\u00d6", "\u00f7",
+            "5a", "55", "aa", "5-5", "5a5a", "5a".repeat(20)};
+        int[] many = {0, 0, 1, 1, 1, 1, 1, 1, 2, 2, 2, 1, 1, 0, 20, 20, 1, 1, 1, 1, 1, 1, 1, 0, 1, 1, 1, 2, 1, 1};
         for (int k = 0; k < rows.length; k++) {
             CHECK.same("words(0) of " + rows[k], Made.row(rows[k]).words(0), many[k]);
         }
-        Signkinds x = Made.row("ab-c--def5");
-        int[] places = {0, 3, 6};
-        int[] lengths = {2, 1, 4};
-        for (int k = 0; k < 3; k++) {
+        Signkinds x = Made.row("ab-c--def5-5a5");
+        int[] places = {0, 3, 6, 11};
+        int[] lengths = {2, 1, 4, 3};
+        for (int k = 0; k < 4; k++) {
             CHECK.same("the first place of the word " + k, x.word(0, k, false), places[k]);
             CHECK.same("the length of the word " + k, x.word(0, k, true), lengths[k]);
         }

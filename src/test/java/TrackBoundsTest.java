@@ -299,9 +299,29 @@ public final class TrackBoundsTest {
             x.reverse(0);
             CHECK.same("the units of case " + k, Made.units(x, 0), due.get(k));
         }
+        reversedAgain();
         Signkinds beside = Made.track(LOW, HIGH);
         beside.reverse(0);
         CHECK.same("the code that two lone halves are then", beside.codeAt(0, 0), WIDE);
+    }
+
+    /** One reverse() leaves nothing to the next one, of the same track or of the other one. */
+    private static void reversedAgain() {
+        Signkinds x = Made.track(7, HIGH, LOW, 8);
+        x.send(1, 9);
+        x.reverse(0);
+        x.reverse(0);
+        CHECK.same("the units, reversed twice", Made.units(x, 0), List.of(7, HIGH, LOW, 8));
+        x.reverse(1);
+        CHECK.same("the units of the other track", Made.units(x, 1), List.of(9));
+        x.cut(0, 4);
+        CHECK.same("reverse(0) of none behind that of some", x.reverse(0), 0);
+        CHECK.same("the units of none", Made.units(x, 0), List.of());
+        Signkinds full = bothFull();
+        full.reverse(0);
+        full.reverse(1);
+        full.reverse(0);
+        CHECK.same("24 units, reversed twice", Made.units(full, 0), Made.units(Made.trackOf(24), 0));
     }
 
     private static void send() {
